@@ -70,7 +70,7 @@ public final class WindRoses {
         if (!desk.hasRoom(rose, hours)) {
             return FULL;
         }
-        history.record(desk);
+        history.remember(desk);
         desk.addWindy(rose, direction, speed, hours);
         return desk.allHours(rose);
     }
@@ -86,7 +86,7 @@ public final class WindRoses {
         if (!desk.hasRoom(rose, hours)) {
             return FULL;
         }
-        history.record(desk);
+        history.remember(desk);
         desk.addCalm(rose, hours);
         return desk.allHours(rose);
     }
@@ -103,7 +103,7 @@ public final class WindRoses {
         if (struck == 0) {
             return NONE;
         }
-        history.record(desk);
+        history.remember(desk);
         desk.addWindy(rose, direction, speed, -struck);
         return struck;
     }
@@ -119,7 +119,7 @@ public final class WindRoses {
         if (desk.windyHours(rose) == 0) {
             return NONE;
         }
-        history.record(desk);
+        history.remember(desk);
         desk.turnLog(rose, by);
         return desk.windyHours(rose);
     }
@@ -138,7 +138,7 @@ public final class WindRoses {
         if (previous == value) {
             return NONE;
         }
-        history.record(desk);
+        history.remember(desk);
         desk.putSetting(which, value);
         return previous;
     }
@@ -157,7 +157,7 @@ public final class WindRoses {
         if (obstacle == AS_DUE) {
             return NONE;
         }
-        history.record(desk);
+        history.remember(desk);
         desk.cut(rose, gap.due, gap.scrapes);
         return gap.different;
     }
@@ -171,7 +171,7 @@ public final class WindRoses {
             return NONE;
         }
         int old = desk.scrapes(rose);
-        history.record(desk);
+        history.remember(desk);
         desk.putNewPlate(rose);
         return old;
     }
@@ -201,7 +201,7 @@ public final class WindRoses {
                 return FULL;
             }
         }
-        history.record(desk);
+        history.remember(desk);
         int logged = 0;
         for (int entry = 0; entry < reader.entries; entry++) {
             reader.addEntry(desk, entry);
@@ -230,7 +230,7 @@ public final class WindRoses {
         if (!hasSnapshot) {
             return NONE;
         }
-        history.record(desk);
+        history.remember(desk);
         desk.loadFrom(snapshot, 0);
         return desk.hoursOfAll();
     }
@@ -755,7 +755,7 @@ public final class WindRoses {
             return (oldest + state) % HISTORY_ROOM * Desk.SIZE;
         }
 
-        void record(Desk desk) {
+        void remember(Desk desk) {
             if (states == HISTORY_ROOM) {
                 oldest = (oldest + 1) % HISTORY_ROOM;
                 states--;
