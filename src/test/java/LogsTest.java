@@ -125,6 +125,9 @@ public final class LogsTest {
         due("4: none", desk.strike(0, 2, 3, 7), -5);
         due("4: undone", desk.undo(), 3);
         due("4: undone", desk.hours(0, 1, 3, 0), 111);
+        due("4: undone alone", desk.rose(0, 1, 2), 3);
+        due("4: NONE is no act", desk.undo(), 2);
+        due("4: the calm ones before", desk.rose(0, 1, 2), 0);
         due("4: port", desk.strike(4, 1, 3, 7), -1);
         due("4: port", desk.strike(-1, 1, 3, 7), -1);
         due("4: season", desk.strike(0, 4, 3, 7), -1);
@@ -156,6 +159,7 @@ public final class LogsTest {
         due("5: undo strike", desk.undo(), 3);
         due("5: undo turn", desk.undo(), 2);
         due("5: as before", desk.hours(1, 1, 15, 2), 2);
+        due("5: undone alone", desk.hours(1, 2, 0, 0), 9);
         due("5: port", desk.turn(4, 1, 0), -1);
         due("5: port", desk.turn(-1, 1, 1), -1);
         due("5: season", desk.turn(1, 4, 1), -1);

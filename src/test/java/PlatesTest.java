@@ -13,6 +13,8 @@ public final class PlatesTest {
         tooManyScrapes();
         noScrapeNeeded();
         renew();
+        neighbours();
+        shortestGap();
         plateTold();
         emptiedLog();
         petalTold();
@@ -155,6 +157,45 @@ public final class PlatesTest {
         due("8: port", desk.renew(-1, 0), -1);
         due("8: season", desk.renew(0, 4), -1);
         due("8: season", desk.renew(0, -1), -1);
+    }
+
+    private static void neighbours() {
+        WindRoses desk = new WindRoses();
+        desk.log(2, 0, 0, 5, 1);
+        desk.engrave(2, 0);
+        due("23: petals of the plate before", desk.plate(1, 3, 2), 0);
+        due("23: longest of the plate before", desk.plate(1, 3, 3), 0);
+        desk.log(1, 3, 15, 50, 99);
+        desk.log(1, 3, 0, 5, 1);
+        desk.calm(1, 3, 50);
+        desk.calm(2, 0, 1);
+        desk.calm(1, 2, 1);
+        desk.engrave(1, 3);
+        desk.engrave(1, 2);
+        desk.engrave(2, 0);
+        due("23: a petal of the length 1", desk.petal(1, 3, 0, 0), 1);
+        due("23: it is counted", desk.plate(1, 3, 2), 2);
+        due("23: the last petal", desk.plate(1, 3, 3), 99);
+        due("8: with scrapes of none", desk.renew(1, 3), 0);
+        for (int what = 0; what <= 3; what++) {
+            due("8: plate(1, 3, " + what + ")", desk.plate(1, 3, what), 0);
+        }
+        due("8: the next plate stays", desk.petal(2, 0, 0, 0), 100);
+        due("8: its circle stays", desk.plate(2, 0, 0), 50);
+        due("8: the circle before stays", desk.plate(1, 2, 0), 100);
+    }
+
+    private static void shortestGap() {
+        WindRoses desk = new WindRoses();
+        desk.log(0, 0, 0, 5, 50);
+        desk.calm(0, 0, 49);
+        desk.engrave(0, 0);
+        due("23: circle", desk.plate(0, 0, 0), 49);
+        desk.calm(0, 0, 1);
+        due("23: one hundredth", desk.plate(0, 0, 4), 1);
+        due("26: one hundredth", desk.nextPlate(), 0);
+        due("7: the circle alone", desk.engrave(0, 0), 1);
+        due("26: none", desk.nextPlate(), -5);
     }
 
     private static void plateTold() {

@@ -11,6 +11,8 @@ public final class TellsTest {
         hours();
         shares();
         likeRemainders();
+        missingForTheFirstPart();
+        dealtAlone();
         sharesWithout();
         quarter();
         excess();
@@ -36,12 +38,17 @@ public final class TellsTest {
         due("15: the most then", desk.rose(1, 2, 9), 9);
         due("15: mean is rounded down", desk.rose(1, 2, 5), 16);
         desk.calm(0, 0, 9);
+        due("15: and more of speed 1", desk.log(1, 2, 9, 1, 7), 23);
+        due("15: mean with speed 1", desk.rose(1, 2, 5), 10);
         int[] calm = {9, 0, 9, 100, -5, -5, 0, 0, 0, -5};
         for (int what = 0; what < calm.length; what++) {
             due("15: rose(0, 0, " + what + ")", desk.rose(0, 0, what), calm[what]);
         }
         desk.log(3, 3, 15, 99, 1);
         due("15: direction 15", desk.rose(3, 3, 9), 15);
+        desk.log(3, 2, 0, 99, 1);
+        desk.log(3, 2, 1, 99, 1);
+        due("15: direction 0 of two", desk.rose(3, 2, 9), 0);
         due("15: speed 99", desk.rose(3, 3, 4), 99);
         due("15: mean 99", desk.rose(3, 3, 5), 99);
         desk.log(2, 0, 0, 1, 1);
@@ -110,6 +117,38 @@ public final class TellsTest {
         bothShares(other, 9, 0, 17);
         bothShares(other, 9, 1, 17);
         bothShares(other, 9, 2, 16);
+    }
+
+    private static void missingForTheFirstPart() {
+        WindRoses desk = new WindRoses();
+        desk.log(0, 0, 0, 5, 2);
+        desk.log(0, 0, 6, 5, 1);
+        // Of three: 66 2/3 and 33 1/3.
+        bothShares(desk, 0, 0, 67);
+        bothShares(desk, 6, 0, 33);
+        desk.log(0, 0, 0, 15, 4);
+        // Of seven: 28 4/7, 57 1/7 and 14 2/7.
+        bothShares(desk, 0, 0, 29);
+        bothShares(desk, 0, 1, 57);
+        bothShares(desk, 6, 0, 14);
+        desk.log(0, 0, 15, 99, 6);
+        // Of thirteen: 15 5/13, 30 10/13, 7 9/13 and 46 2/13; two are missing.
+        bothShares(desk, 0, 0, 15);
+        bothShares(desk, 0, 1, 31);
+        bothShares(desk, 6, 0, 8);
+        bothShares(desk, 15, 2, 46);
+    }
+
+    private static void dealtAlone() {
+        WindRoses desk = new WindRoses();
+        desk.log(0, 0, 0, 5, 1);
+        desk.log(0, 0, 0, 15, 1);
+        desk.log(0, 0, 0, 40, 1);
+        due("18: before any share", desk.dealt(0, 0, 0, 0), 34);
+        due("17: another log", desk.share(0, 1, 0, 1), 0);
+        due("18: after another log", desk.dealt(0, 0, 0, 1), 33);
+        due("18: another log", desk.dealt(0, 1, 0, 0), 0);
+        due("18: after another log", desk.dealt(0, 0, 0, 2), 33);
     }
 
     private static void sharesWithout() {
@@ -182,6 +221,9 @@ public final class TellsTest {
         due("21: calm ones not", desk.unlike(3, 0, 1), 50);
         desk.turn(3, 1, 4);
         due("21: turned", desk.unlike(3, 0, 1), 200);
+        desk.log(0, 2, 0, 1, 2);
+        desk.log(1, 2, 15, 99, 2);
+        due("21: the first part and the last", desk.unlike(0, 1, 2), 200);
         due("21: the same", desk.unlike(2, 2, 0), -2);
         due("21: UNKNOWN first", desk.unlike(4, 4, 0), -1);
         due("21: UNKNOWN first", desk.unlike(2, 2, 4), -1);
@@ -203,6 +245,10 @@ public final class TellsTest {
         desk.log(1, 0, 15, 99, 1);
         due("22: class 2", desk.seasonOf(1, 2), 0);
         due("22: another port", desk.seasonOf(0, 0), -5);
+        due("22: another port", desk.seasonOf(0, 2), -5);
+        desk.log(3, 3, 0, 50, 2);
+        due("22: the last season of the last port", desk.seasonOf(3, 2), 3);
+        due("22: a port between", desk.seasonOf(2, 2), -5);
         desk.set(0, 6);
         due("22: classes by bounds", desk.seasonOf(1, 1), 2);
         due("22: classes by bounds", desk.seasonOf(1, 0), 3);

@@ -45,6 +45,8 @@ public final class TextsTest {
         due("11: edges of numbers", desk.strike(0, 1, 10, 10), 10);
         due("11: one digit each", checks.writeAndLog(desk, "2.2:9@9*9"), 9);
         due("11: one digit each", desk.strike(2, 2, 9, 9), 9);
+        due("11: the least told", checks.writeAndLog(desk, "2.1:0@1*1;2.1:c*1"), 2);
+        due("11: the least told", desk.rose(2, 1, 1), 1);
         due("11: calm with hours", checks.writeAndLog(desk, "2.0:c*25;2.0:c"), 26);
         due("11: several", checks.writeAndLog(desk, "0.0:1@1;0.0:1@1*3;1.1:c*2"), 6);
         due("11: like ones add up", desk.strike(0, 0, 1, 1), 4);
@@ -161,6 +163,17 @@ public final class TextsTest {
         due("11: full then", desk.rose(3, 0, 0), 9999);
         due("11: full", desk.logAll(), -3);
         due("11: another log", checks.writeAndLog(desk, "0.3:c*99"), 99);
+        roomOf(0, 0);
+        roomOf(3, 3);
+    }
+
+    private static void roomOf(int port, int season) {
+        WindRoses desk = new WindRoses();
+        for (int i = 0; i < 101; i++) {
+            desk.calm(port, season, 99);
+        }
+        due("11: full", checks.writeAndLog(desk, "1.2:c;" + port + "." + season + ":c"), -3);
+        due("11: none of them", desk.rose(1, 2, 0), 0);
     }
 
     private static void oneAct() {
