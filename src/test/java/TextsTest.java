@@ -165,6 +165,18 @@ public final class TextsTest {
         due("11: another log", checks.writeAndLog(desk, "0.3:c*99"), 99);
         roomOf(0, 0);
         roomOf(3, 3);
+        roomBesideFull();
+    }
+
+    private static void roomBesideFull() {
+        WindRoses desk = new WindRoses();
+        for (int i = 0; i < 100; i++) {
+            desk.calm(0, 0, 99);
+        }
+        desk.calm(0, 0, 98);
+        desk.log(0, 0, 0, 1, 1);
+        desk.engrave(0, 0);
+        due("11: beside a log and a plate that are full", checks.writeAndLog(desk, "1.1:c"), 1);
     }
 
     private static void roomOf(int port, int season) {
