@@ -17,9 +17,8 @@ public final class LanguageTest {
         + "logAll 0,undo 0,keep 0,restore 0,rose 3,hours 4,share 4,dealt 4,quarter 3,excess 3,unlike 3,seasonOf 2,"
         + "plate 3,petal 4,reason 2,nextPlate 0,count 1";
     private static final String[] BARRED = {
-        "import", "package", "throw", "throws", "try", "catch", "finally", "synchronized", "assert", "instanceof",
-        "record", "enum", "->", "::", "@", "\"", "equals", "hashCode", "toString", "Object", "String", "List",
-        "Integer", "double", "float", "native", "volatile", "transient", "protected", "var", "goto"};
+        "package", "throw", "throws", "try", "catch", "finally", "synchronized", "assert", "native", "volatile",
+        "transient", "protected", "Object", "Thread", "Random", "Character", "::"};
 
     public static void main(String[] args) throws IOException {
         constants();
@@ -28,8 +27,9 @@ public final class LanguageTest {
         insideClasses();
         String source = withoutCommentsAndCharacters(Files.readString(Path.of("src/main/java/WindRoses.java")));
         barredWords(source);
+        signs(source);
+        arrows(source);
         library(source);
-        madeInConstructorsAlone(source);
         methodLengths(source);
         checks.end("LanguageTest");
     }
@@ -96,6 +96,9 @@ public final class LanguageTest {
             String pattern = isWord ? "\\b" + word + "\\b" : Pattern.quote(word);
             checks.due("barred: " + word, Pattern.compile(pattern).matcher(source).find() ? 1 : 0, 0);
         }
+    }
+
+    private static void signs(String source) {
         for (int i = 0; i < source.length(); i++) {
             if (source.charAt(i) > 126) {
                 checks.due("the sign at " + i, source.charAt(i), 0);
@@ -103,26 +106,26 @@ public final class LanguageTest {
         }
     }
 
-    private static void library(String source) {
-        Set<String> allowed = Set.of("Math.abs", "Math.max", "Math.floorMod", "System.arraycopy");
-        Matcher call = Pattern.compile("\\b(Math|System|Arrays|Character|Long)\\.\\w+").matcher(source);
-        while (call.find()) {
-            checks.due("library: " + call.group(), allowed.contains(call.group()) ? 1 : 0, 1);
+    /** An arrow is that of a switch, or of a lambda, which is barred. */
+    private static void arrows(String source) {
+        for (String line : source.split("\n")) {
+            if (line.contains("->")) {
+                checks.due("barred: " + line.trim(), line.matches("\\s*(case|default)\\b.*") ? 1 : 0, 1);
+            }
         }
     }
 
-    /** No call makes an object: so a run of any length lives in the room of its first call. */
-    private static void madeInConstructorsAlone(String source) {
-        boolean inConstructor = false;
-        for (String line : source.split("\n")) {
-            if (line.matches("\\s+(public )?[A-Z]\\w*\\([^)]*\\) \\{")) {
-                inConstructor = true;
-            } else if (line.matches("\\s+}")) {
-                inConstructor = false;
-            }
-            if (line.matches(".*\\bnew\\b.*")) {
-                checks.due("made in a constructor: " + line.trim(), inConstructor ? 1 : 0, 1);
-            }
+    private static void library(String source) {
+        String allowed = "(Math|Integer|Long)\\.(?!\\w+Exact\\b)\\w+|System\\.arraycopy"
+            + "|Arrays\\.(copyOf|copyOfRange|fill)|List\\.of";
+        Matcher call = Pattern.compile("\\b(Math|System|Arrays|Integer|Long|List)\\.\\w+").matcher(source);
+        while (call.find()) {
+            checks.due("library: " + call.group(), call.group().matches(allowed) ? 1 : 0, 1);
+        }
+        Matcher taken = Pattern.compile("\\bimport\\s+([^;]*);").matcher(source);
+        while (taken.find()) {
+            boolean isOfTheList = taken.group(1).matches("java\\.util\\.(ArrayList|List|Arrays|Iterator)");
+            checks.due("library: " + taken.group(), isOfTheList ? 1 : 0, 1);
         }
     }
 

@@ -2,8 +2,12 @@ import java.util.Random;
 
 /** Runs of random calls, with always the same seeds, on the program and on the reference side by side. */
 public final class RandomRunsTest {
-    private static final int RUNS = 400;
+    private static final int RUNS = 800;
+    /** Nothing is promised of an object beyond these. */
     private static final int CALLS = 512;
+    /** What a text of fourteen logs may need, and what the look at the end needs. */
+    private static final int CALLS_OF_A_TEXT = 190;
+    private static final int CALLS_AT_THE_END = 12 + 3 * 19;
 
     private final Checks checks;
     private final Random random;
@@ -15,6 +19,7 @@ public final class RandomRunsTest {
     private final int speeds;
     private final boolean muchWrong;
     private final boolean manyHours;
+    private int calls = 0;
 
     private RandomRunsTest(Checks made, int seed) {
         checks = made;
@@ -30,10 +35,11 @@ public final class RandomRunsTest {
         Checks checks = new Checks();
         for (int seed = 1; seed <= RUNS; seed++) {
             RandomRunsTest run = new RandomRunsTest(checks, seed);
-            for (int call = 0; call < CALLS; call++) {
-                run.one("run " + seed + ", call " + call + ": ");
+            while (run.calls + 3 <= CALLS - CALLS_AT_THE_END) {
+                run.one("run " + seed + ", call " + run.calls + ": ");
             }
-            run.lookAtAll("run " + seed + ", at its end: ");
+            run.lookAtTheEnd("run " + seed + ", at its end: ");
+            checks.due("calls of run " + seed, run.calls <= CALLS ? 1 : 0, 1);
         }
         checks.end("RandomRunsTest");
     }
@@ -67,6 +73,7 @@ public final class RandomRunsTest {
     }
 
     private void due(String call, int got, int want) {
+        calls++;
         checks.due(call, got, want);
     }
 
@@ -153,7 +160,8 @@ public final class RandomRunsTest {
     }
 
     private void oneText(String at) {
-        if (random.nextInt(3) != 0) {
+        boolean hasRoom = calls + CALLS_OF_A_TEXT <= CALLS - CALLS_AT_THE_END;
+        if (hasRoom && random.nextInt(3) != 0) {
             due(at + "clearText", desk.clearText(), reference.clearText());
             String text = someText();
             for (int i = 0; i < text.length(); i++) {
@@ -235,21 +243,22 @@ public final class RandomRunsTest {
             reference.petal(port, season, direction, kind));
     }
 
-    private void lookAtAll(String at) {
+    private void lookAtTheEnd(String at) {
         for (int what = 0; what <= 10; what++) {
             due(at + "count " + what, desk.count(what), reference.count(what));
         }
         due(at + "nextPlate", desk.nextPlate(), reference.nextPlate());
-        for (int rose = 0; rose < 16; rose++) {
+        for (int looked = 0; looked < 3; looked++) {
+            int port = random.nextInt(roses);
+            int season = 3 - random.nextInt(roses);
             for (int what = 0; what <= 9; what++) {
-                lookAtRose(at, rose / 4, rose % 4, what);
+                lookAtRose(at, port, season, what);
             }
             for (int what = 0; what <= 5; what++) {
-                due(at + "plate", desk.plate(rose / 4, rose % 4, what),
-                    reference.plate(rose / 4, rose % 4, what));
+                due(at + "plate", desk.plate(port, season, what), reference.plate(port, season, what));
             }
             int part = random.nextInt(48);
-            lookAtPart(at, rose / 4, rose % 4, part / 3, part % 3);
+            lookAtPart(at, port, season, part / 3, part % 3);
         }
     }
 }
