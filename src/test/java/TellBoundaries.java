@@ -1,5 +1,8 @@
 /** The edges of the term SHARES and of the promises 15 to 22: what is told of logs. */
 final class TellBoundaries {
+    private interface Part {
+        int of(WindRoses desk, int port, int season, int direction, int kind);
+    }
 
     private static final int[] SPEEDS = {5, 20, 60};
 
@@ -11,6 +14,7 @@ final class TellBoundaries {
 
     static void lookAt(Sentences sentences) {
         TellBoundaries edges = new TellBoundaries(sentences);
+        edges.wholeDesk();
         edges.terms();
         edges.promise15();
         edges.promise16();
@@ -30,6 +34,62 @@ final class TellBoundaries {
         String part = "(0, 0, " + direction + ", " + kind + ")";
         s.due("share" + part, desk.share(0, 0, direction, kind), want);
         s.due("dealt" + part, desk.dealt(0, 0, direction, kind), want);
+    }
+
+    // ---- What it is
+
+    private void wholeDesk() {
+        s.of("What it is", "calm hours that are set aside");
+        WindRoses aside = Desks.withWind(0, 0, 3, 20, 1);
+        Desks.log(aside, 0, 0, 0, 0, 9998);
+        dueShare(aside, 3, 1, 100);
+        s.due("windy hours", aside.rose(0, 0, 1), 1);
+        s.due("prevailing direction", aside.rose(0, 0, 9), 3);
+        s.due("mean speed", aside.rose(0, 0, 5), 20);
+
+        s.of("What it is", "shares in hundredths that add up to a hundred");
+        for (int seed = 1; seed <= 50; seed++) {
+            WindRoses desk = manyParts(seed);
+            int shares = 0;
+            int dealt = 0;
+            for (int part = 0; part < 48; part++) {
+                shares += desk.share(0, 0, part / 3, part % 3);
+                dealt += desk.dealt(0, 0, part / 3, part % 3);
+            }
+            s.due("shares together", shares, 100);
+            s.due("dealt together", dealt, 100);
+        }
+
+        s.of("What it is", "accounts that add up");
+        for (int seed = 1; seed <= 50; seed++) {
+            WindRoses desk = manyParts(seed);
+            desk.calm(0, 0, seed);
+            int hours = 0;
+            int parts = 0;
+            for (int direction = 0; direction < 16; direction++) {
+                hours += desk.hours(0, 0, direction, 3);
+                for (int kind = 0; kind < 3; kind++) {
+                    parts += desk.hours(0, 0, direction, kind);
+                }
+            }
+            s.due("hours of all directions", hours, desk.rose(0, 0, 1));
+            s.due("hours of all parts", parts, desk.rose(0, 0, 1));
+            s.due("hours of all classes", desk.rose(0, 0, 6) + desk.rose(0, 0, 7) + desk.rose(0, 0, 8),
+                desk.rose(0, 0, 1));
+            s.due("windy and calm hours", desk.rose(0, 0, 1) + seed, desk.rose(0, 0, 0));
+            s.due("hours of all logs", desk.count(0), desk.rose(0, 0, 0));
+        }
+    }
+
+    /** A log of one hour at least, and of few hours or many in most parts. */
+    private static WindRoses manyParts(int seed) {
+        WindRoses desk = Desks.withWind(0, 0, seed % 16, 50, 1);
+        int number = seed * 7919;
+        for (int part = 0; part < 48; part++) {
+            number = (number * 1103 + 12345) % 99991;
+            logPart(desk, part / 3, part % 3, number % (1 + seed % 9 * 11));
+        }
+        return desk;
     }
 
     // ---- SHARES
@@ -321,10 +381,6 @@ final class TellBoundaries {
         unknownPart("hours", (any, port, season, direction, kind) -> any.hours(port, season, direction, kind), 4);
     }
 
-    private interface Part {
-        int of(WindRoses desk, int port, int season, int direction, int kind);
-    }
-
     private void unknownPart(String call, Part told, int noClass) {
         WindRoses desk = new WindRoses();
         s.due(call + ": port", told.of(desk, 4, 0, 0, 0), -1);
@@ -383,19 +439,14 @@ final class TellBoundaries {
             + "part that has the greatest remainder of those that have got none.");
         sharesOfAllRoses((any, port, season, direction, kind) -> any.dealt(port, season, direction, kind));
         for (int seed = 1; seed <= 60; seed++) {
-            WindRoses desk = new WindRoses();
-            int number = seed * 7919;
-            for (int part = 0; part < 48; part++) {
-                number = (number * 1103 + 12345) % 99991;
-                logPart(desk, part / 3, part % 3, number % (1 + seed % 9));
-            }
+            WindRoses desk = manyParts(seed);
             int sum = 0;
             for (int part = 0; part < 48; part++) {
                 int dealt = desk.dealt(0, 0, part / 3, part % 3);
                 s.due("as share, " + seed, dealt, desk.share(0, 0, part / 3, part % 3));
                 sum += dealt;
             }
-            s.due("together, " + seed, sum, desk.rose(0, 0, 1) > 0 ? 100 : 0);
+            s.due("together, " + seed, sum, 100);
         }
 
         s.of("Promise 18", "`port`: 0 to 3");

@@ -398,7 +398,8 @@ final class TextBoundaries {
             s.due("another log", one.logAll(), 99);
         }
         WindRoses beside = Desks.withWind(3, 3, 15, 99, 9999);
-        Desks.log(beside, 0, 0, 0, 0, 9999);
+        beside.log(0, 0, 0, 1, 1);
+        Desks.log(beside, 0, 0, 0, 0, 9998);
         beside.engrave(0, 0);
         Checks.write(beside, "1.1:c");
         s.due("beside full logs that are not of the text", beside.logAll(), 1);
