@@ -39,8 +39,8 @@ public final class WindRoses {
     private final History history;
     private final int[] snapshot;
     private boolean hasSnapshot;
-    private final Text text;
     private final Reader reader;
+    private final Text text;
     private final Shares shares;
     private final Shares otherShares;
     private final Gap gap;
@@ -50,8 +50,8 @@ public final class WindRoses {
         history = new History();
         snapshot = new int[Desk.SIZE];
         hasSnapshot = false;
-        text = new Text();
-        reader = new Reader(text);
+        reader = new Reader();
+        text = reader.text;
         shares = new Shares();
         otherShares = new Shares();
         gap = new Gap();
@@ -940,7 +940,7 @@ public final class WindRoses {
     private static final class Reader {
         private static final int CALM_AIR = -1;
 
-        private final Text text;
+        final Text text;
         private final int[] roses;
         private final int[] directions;
         private final int[] speeds;
@@ -948,8 +948,8 @@ public final class WindRoses {
         int entries;
         int place;
 
-        Reader(Text typed) {
-            text = typed;
+        Reader() {
+            text = new Text();
             roses = new int[ENTRY_ROOM];
             directions = new int[ENTRY_ROOM];
             speeds = new int[ENTRY_ROOM];

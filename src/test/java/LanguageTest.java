@@ -2,8 +2,6 @@ import java.io.IOException;
 import java.lang.reflect.Field;
 import java.lang.reflect.Method;
 import java.lang.reflect.Modifier;
-import java.nio.file.Files;
-import java.nio.file.Path;
 import java.util.Arrays;
 import java.util.Set;
 import java.util.TreeSet;
@@ -25,7 +23,7 @@ public final class LanguageTest {
         methods();
         fields();
         insideClasses();
-        String source = withoutCommentsAndCharacters(Files.readString(Path.of("src/main/java/WindRoses.java")));
+        String source = Source.withoutCommentsAndCharacters();
         barredWords(source);
         signs(source);
         arrows(source);
@@ -83,11 +81,6 @@ public final class LanguageTest {
             checks.due(one + " is static", Modifier.isStatic(modifiers) ? 1 : 0, 1);
             checks.due(one + " is open", Modifier.isPublic(modifiers) || Modifier.isProtected(modifiers) ? 1 : 0, 0);
         }
-    }
-
-    private static String withoutCommentsAndCharacters(String source) {
-        String bare = source.replaceAll("(?s)/\\*.*?\\*/", "").replaceAll("//[^\n]*", "");
-        return bare.replaceAll("'[^']'", "0");
     }
 
     private static void barredWords(String source) {
